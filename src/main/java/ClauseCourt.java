@@ -172,7 +172,9 @@ public final class ClauseCourt {
         }
 
         static int opposite(int literals) {
-            return ((literals & POSITIVE) << MOST_VARIABLES) | ((literals >>> MOST_VARIABLES) & POSITIVE);
+            int positive = literals & POSITIVE;
+            int negative = (literals >>> MOST_VARIABLES) & POSITIVE;
+            return (positive << MOST_VARIABLES) | negative;
         }
 
         static boolean isSingle(int literals) {
@@ -426,10 +428,6 @@ public final class ClauseCourt {
     /** Trusts nothing of the search: looks at its models and its derivations, and counts faults. */
     static final class Checker {
         private int faults;
-
-        Checker() {
-            faults = 0;
-        }
 
         int faults() {
             return faults;

@@ -1,9 +1,13 @@
+import java.lang.reflect.Field;
+
 /** That the checker behind count(5) sees wrong proofs and wrong models, which no call can make. */
 public final class CheckerTest {
-    public static void main(String[] args) {
+    public static void main(String[] args) throws ReflectiveOperationException {
         goodProof();
         wrongProofs();
         wrongModels();
+        wrongProofIsCounted();
+        wrongModelIsCounted();
         Due.end();
     }
 
@@ -117,5 +121,38 @@ public final class CheckerTest {
         ClauseCourt.Checker checker = new ClauseCourt.Checker();
         checker.checkModel(docket, held, 3);
         Due.same(what + ": faults", checker.faults(), want);
+    }
+
+    private static Field field(String name) throws ReflectiveOperationException {
+        Field field = ClauseCourt.class.getDeclaredField(name);
+        field.setAccessible(true);
+        return field;
+    }
+
+    // A lie in the docket: an empty clause that is said to be derived, from nothing.
+    private static void wrongProofIsCounted() throws ReflectiveOperationException {
+        for (int question = 0; question < 3; question++) {
+            ClauseCourt court = Due.courtOf(2);
+            Due.clause(court, 1, 2);
+            ((ClauseCourt.Docket) field("docket").get(court)).derive(0);
+            boolean no = question == 0 ? !court.solve() : question == 1 ? court.follows(1) : court.models() == 0;
+            Due.same("question " + question + " believes the lie", no, true);
+            Due.same("question " + question + ": it is counted", court.count(5) > 0, true);
+            int faults = court.count(5);
+            Due.same("the lie is gone", court.solve(), true);
+            Due.same("the count stays", court.count(5), faults);
+        }
+    }
+
+    // Of two variables one is hidden, so that the search stops with a value too many.
+    private static void wrongModelIsCounted() throws ReflectiveOperationException {
+        for (int question = 0; question < 3; question++) {
+            ClauseCourt court = Due.courtOf(2);
+            Due.clause(court, 2);
+            field("variables").setInt(court, 1);
+            boolean yes = question == 0 ? court.solve() : question == 1 ? !court.follows(1) : court.models() > 0;
+            Due.same("question " + question + " finds one", yes, true);
+            Due.same("question " + question + ": it is counted", court.count(5) > 0, true);
+        }
     }
 }
