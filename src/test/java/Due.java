@@ -5,14 +5,35 @@ final class Due {
     }
 
     private static int wrong = 0;
+    private static String sentence = "";
 
     private Due() {
     }
 
+    /** A test of one sentence of the document; its words stand before each answer that is wrong. */
+    static void sentence(String words, Call test) {
+        sentence = "\"" + words + "\": ";
+        String thrown = thrownBy(test);
+        if (!thrown.equals("nothing")) {
+            tellWrong("a call that must not throw threw " + thrown);
+        }
+        sentence = "";
+    }
+
+    private static void tellWrong(String what) {
+        wrong++;
+        System.out.println(sentence + what);
+    }
+
     static void same(String what, long got, long want) {
         if (got != want) {
-            wrong++;
-            System.out.println(what + " answered " + got + ", due is " + want);
+            tellWrong(what + " answered " + got + ", due is " + want);
+        }
+    }
+
+    static void same(String what, String got, String want) {
+        if (!got.equals(want)) {
+            tellWrong(what + " answered " + got + ", due is " + want);
         }
     }
 
@@ -32,8 +53,7 @@ final class Due {
     private static void throwing(String what, String want, Call call) {
         String got = thrownBy(call);
         if (!got.equals(want)) {
-            wrong++;
-            System.out.println(what + " threw " + got + ", due is " + want);
+            tellWrong(what + " threw " + got + ", due is " + want);
         }
     }
 

@@ -46,7 +46,19 @@ public final class FaceTest {
             int open = Modifier.PUBLIC | Modifier.PROTECTED;
             Due.same(inside + " is not open", inside.getModifiers() & open, 0);
             Due.same(inside + " is static", Modifier.isStatic(inside.getModifiers()), true);
+            onlyConstantsAreStatic(inside);
         }
+        onlyConstantsAreStatic(court);
         Due.end();
+    }
+
+    // "All memory is the class's own rows": what is static would be shared by all objects.
+    private static void onlyConstantsAreStatic(Class<?> holder) {
+        for (Field field : holder.getDeclaredFields()) {
+            if (Modifier.isStatic(field.getModifiers())) {
+                Due.same(field + " is final", Modifier.isFinal(field.getModifiers()), true);
+                Due.same(field + " is a number", field.getType() == int.class, true);
+            }
+        }
     }
 }

@@ -39,7 +39,8 @@ public final class Promise04CloseTest {
         }
         court.literal(-1);
         Due.refused("clause 500", court::close);
-        Due.counts("behind it", court, 1, 500, 1, 0, 0, 0);
+        Due.same("the told literal stays", court.count(2), 1);
+        Due.same("no clause more", court.count(1), 500);
         Due.same("no model with the empty ones", court.solve(), false);
         Due.same("no fault", court.count(5), 0);
         Due.refused("and again", court::close);

@@ -7,7 +7,8 @@ import java.util.List;
  */
 public final class ReferenceTest {
     private static final int RUNS = 3000;
-    private static final int CALLS = 512;
+    // An object is used for 512 calls; six of them are the counts at the end of a run.
+    private static final int CALLS = 512 - 6;
 
     /** The document's words, by trying all. */
     private static final class Reference {
